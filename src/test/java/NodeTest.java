@@ -113,6 +113,8 @@ public final class NodeTest {
         probe.reads("(?im-sU:^b.b*)", 12, "row1(group0(row4(at2 [66 98] " + DOT + " greedy0,-1([66 98]))))", 36);
         probe.reads("((?i))b", 0, "row2(group1(row1(row0())) c98)", 3);
         probe.reads("(?i)(b)(?-i)(b)", 0, "row4(row0() group1(row1([66 98])) row0() group2(row1(c98)))", 15);
+        probe.reads("(?i)(?m)b^", 0, "row4(row0() row0() [66 98] at2)", 11);
+        probe.reads("(?m:b(?-m)b^)", 1, "row1(group0(row4([66 98] row0() [66 98] at0)))", 21);
         probe.reads("(?iimm)b^", 0, "row3(row0() [66 98] at2)", 11);
         probe.reads("(?P<n>(?i)b)b", 0, "row2(group1(row2(row0() [66 98])) c98)", 13);
     }
