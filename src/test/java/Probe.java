@@ -2,7 +2,12 @@ import java.nio.charset.StandardCharsets;
 
 /** What the tests share: patterns as texts, trees as texts, and the count of wrong answers. */
 final class Probe {
+    private static final int MOST_TOLD = 200;
+
     private final String title;
+    private String sentence = "";
+    private int sentences = 0;
+    private int askedBefore = 0;
     private int asked = 0;
     private int wrong = 0;
 
@@ -10,19 +15,39 @@ final class Probe {
         this.title = title;
     }
 
+    /** The words of the document that the answers from here on are held against. */
+    void says(String words) {
+        endSentence();
+        sentence = words;
+        sentences++;
+        askedBefore = asked;
+    }
+
+    // A sentence that nothing was asked about would look as if it held.
+    private void endSentence() {
+        if (sentences > 0 && asked == askedBefore) {
+            tellWrong("nothing was asked");
+        }
+    }
+
+    private void tellWrong(String what) {
+        wrong++;
+        if (wrong <= MOST_TOLD) {
+            System.out.println(title + (sentences > 0 ? " '" + sentence + "'" : "") + ": " + what);
+        }
+    }
+
     void due(String call, long got, long want) {
         asked++;
         if (got != want) {
-            wrong++;
-            System.out.println(title + ": " + call + " answered " + got + ", due is " + want);
+            tellWrong(call + " answered " + got + ", due is " + want);
         }
     }
 
     void due(String call, String got, String want) {
         asked++;
         if (!got.equals(want)) {
-            wrong++;
-            System.out.println(title + ": " + call + " answered " + got + ", due is " + want);
+            tellWrong(call + " answered " + got + ", due is " + want);
         }
     }
 
@@ -31,7 +56,9 @@ final class Probe {
     }
 
     void end() {
-        System.out.println(title + ": " + asked + " answers, " + wrong + " wrong");
+        endSentence();
+        System.out.println(title + ": " + (sentences > 0 ? sentences + " sentences, " : "")
+            + asked + " answers, " + wrong + " wrong");
         if (wrong != 0) {
             System.exit(1);
         }

@@ -1,3 +1,5 @@
+import java.io.ByteArrayOutputStream;
+import java.util.Arrays;
 import java.util.Random;
 
 /** All promises: patterns by a fixed seed; what must hold of every tree, whatever its pattern. */
@@ -12,11 +14,10 @@ public final class RandomTest {
 
     public static void main(String[] args) {
         Random random = new Random(20261115);
-        PatternNodes x = new PatternNodes();
+        Renewed x = new Renewed();
         for (int run = 0; run < 60000; run++) {
-            putSome(x, random);
-            int flags = random.nextInt(16);
-            int groups = Probe.readOrRefuse(x, flags);
+            byte[] pattern = somePattern(random);
+            int groups = x.read(pattern, random.nextInt(16));
             if (groups == -1) {
                 checkFault(x, run);
             } else {
@@ -26,25 +27,28 @@ public final class RandomTest {
         probe.end();
     }
 
-    private static void putSome(PatternNodes x, Random random) {
+    private static byte[] somePattern(Random random) {
+        ByteArrayOutputStream out = new ByteArrayOutputStream();
         int many = 1 + random.nextInt(random.nextInt(8) == 0 ? 200 : 8);
         for (int k = 0; k < many; k++) {
             if (random.nextInt(300) == 0) {
-                x.put(random.nextLong(), random.nextInt(12) - 2);
+                out.write(random.nextInt(256));
             } else {
-                Probe.putAll(x, Probe.utf8(PIECES[random.nextInt(PIECES.length)]));
+                out.writeBytes(Probe.utf8(PIECES[random.nextInt(PIECES.length)]));
             }
         }
+        byte[] all = out.toByteArray();
+        return Arrays.copyOf(all, Math.min(all.length, 400));
     }
 
-    private static void checkFault(PatternNodes x, int run) {
+    private static void checkFault(Renewed x, int run) {
         probe.due("run " + run + ": a fault is 1 .. 13", x.fault(0) >= 1 && x.fault(0) <= 13, true);
         probe.due("run " + run + ": a place is 0 .. 399", x.fault(1) >= 0 && x.fault(1) < 400, true);
         probe.due("run " + run + ": nodes, groups, bytes", x.count(0) + x.count(1) + x.count(2), 0);
         probe.due("run " + run + ": no node", x.node(0, 0), -1);
     }
 
-    private static void checkTree(PatternNodes x, int run, int groups) {
+    private static void checkTree(Renewed x, int run, int groups) {
         int nodes = x.count(0);
         long[] sums = new long[nodes];
         int[] own = new int[nodes];
@@ -67,7 +71,7 @@ public final class RandomTest {
         probe.due("run " + run + ": bytes", x.count(2), 0);
     }
 
-    private static int ownOf(PatternNodes x, int i) {
+    private static int ownOf(Renewed x, int i) {
         int kind = x.node(i, 0);
         if (kind < 4) {
             return 0;
@@ -75,7 +79,7 @@ public final class RandomTest {
         return kind < 6 ? x.node(i, 1) : 1;
     }
 
-    private static long sizeOf(PatternNodes x, int i, long sum) {
+    private static long sizeOf(Renewed x, int i, long sum) {
         int value = x.node(i, 1);
         int most = x.node(i, 2);
         switch (x.node(i, 0)) {
@@ -88,7 +92,7 @@ public final class RandomTest {
         }
     }
 
-    private static void checkRanges(PatternNodes x, int i, String which) {
+    private static void checkRanges(Renewed x, int i, String which) {
         int many = x.node(i, 5);
         probe.due(which + " has ranges as a class alone", many >= 0 && (x.node(i, 0) == 1 || many == 0), true);
         int last = -2;
