@@ -14,7 +14,6 @@ public final class RangeTest {
         namedSets();
         alikeCharacters();
         alikeRanges();
-        everyPairOfAlikes();
         noCharacters();
         wrongInputs();
         manyRanges();
@@ -198,81 +197,6 @@ public final class RangeTest {
         is("\\w", 1, "[48-57 65-90 95 97-122]");
         is("\\pG", 1, "[880-1023]");
         is("[\\pG]", 1, "[880-1023]");
-    }
-
-    /** Written from the document's words once more, character by character. */
-    private static boolean[][] alikes(int most) {
-        boolean[][] alike = new boolean[most][];
-        int[] leader = new int[most];
-        for (int c = 0; c < most; c++) {
-            leader[c] = c;
-        }
-        for (int c = 'a'; c <= 'z'; c++) {
-            join(leader, c, c - 32);
-        }
-        for (int c = 224; c <= 254; c++) {
-            if (c != 247) {
-                join(leader, c, c - 32);
-            }
-        }
-        for (int c = 945; c <= 969; c++) {
-            join(leader, c, c - 32);
-        }
-        for (int c = 1072; c <= 1103; c++) {
-            join(leader, c, c - 32);
-        }
-        for (int c = 1104; c <= 1119; c++) {
-            join(leader, c, c - 80);
-        }
-        int[] pairs = {962, 963, 962, 931, 107, 8490, 115, 383, 229, 8491, 181, 956};
-        for (int k = 0; k < pairs.length; k += 2) {
-            join(leader, pairs[k], pairs[k + 1]);
-        }
-        for (int c = 0; c < most; c++) {
-            int size = 0;
-            for (int d = 0; d < most; d++) {
-                size += leader[d] == leader[c] ? 1 : 0;
-            }
-            if (size > 1) {
-                alike[c] = new boolean[most];
-                for (int d = 0; d < most; d++) {
-                    alike[c][d] = leader[d] == leader[c];
-                }
-            }
-        }
-        return alike;
-    }
-
-    private static void join(int[] leader, int a, int b) {
-        int from = leader[a];
-        int to = leader[b];
-        for (int c = 0; c < leader.length; c++) {
-            if (leader[c] == from) {
-                leader[c] = to;
-            }
-        }
-    }
-
-    private static void everyPairOfAlikes() {
-        int most = 8600;
-        boolean[][] alike = alikes(most);
-        PatternNodes x = new PatternNodes();
-        for (int c = 128; c < most; c++) {
-            Probe.putAll(x, Probe.utf8(new String(Character.toChars(c))));
-            Probe.readOrRefuse(x, 1);
-            probe.due("kind of " + c, x.node(0, 0), alike[c] == null ? 0 : 1);
-            for (int k = 0; alike[c] != null && k < x.node(0, 5); k++) {
-                for (int d = x.range(0, k, 0); d <= x.range(0, k, 1); d++) {
-                    probe.due("alike to " + c + ": " + d, alike[c][d], true);
-                    alike[c][d] = false;
-                }
-            }
-            for (int d = 0; alike[c] != null && d < most; d++) {
-                if (alike[c][d]) {
-                    probe.due("alike to " + c + ": " + d, 0, 1);
-                }
-            }
-        }
     }
 
     private static void noCharacters() {
