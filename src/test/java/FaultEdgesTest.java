@@ -282,9 +282,13 @@ public final class FaultEdgesTest {
             probe.fails("(?:" + repeat, 8, 3);
             probe.fails("(?P<n>" + repeat, 8, 6);
             probe.fails("(a|" + repeat, 8, 3);
+            probe.fails("a(?:" + repeat, 8, 4);
+            probe.fails("(a)(?i:" + repeat, 8, 7);
+            probe.fails("a*(?:" + repeat, 8, 5);
             // (? would begin another kind of group.
             if (!repeat.equals("?")) {
                 probe.fails("(" + repeat, 8, 1);
+                probe.fails("a(" + repeat, 8, 2);
             }
         }
         probe.says("8 a repeat behind (?flags): at it");

@@ -19,6 +19,7 @@ public final class PromiseEdgesTest {
         refusedPuts();
         fullHand();
         handOfRead();
+        readBehindRead();
         flagsOfRead();
         refusedFlags();
         faultsOfRead();
@@ -175,6 +176,44 @@ public final class PromiseEdgesTest {
             y.put(0x62L, 1);
             probe.due("read behind fault " + fault, Probe.readOrRefuse(y, 0), 0);
             probe.due("only what came since", Probe.tree(y), "row1(c98)");
+        }
+    }
+
+    private static void readBehindRead() {
+        probe.says("The bytes in hand (and nothing of an earlier read) are read as a pattern");
+        String[] earlier = {"", "a", "a*", "a|b", "|", "(?i)", "(?P<n>a|b)", "a)", "a*)", "(", "(ab", "(a|b", "((a|b)c|d",
+            "a(b|c|", "(?i:a", "(?imsU)[", "a[b", "a\\q", "(?P<n>)(?P<n>)", "(?:(?:(?:(?:a", "()()()()()()()()()()"};
+        String[] later = {"", "b", "b|c", "(b)", "(b|c)d", "((b)|c)", "(?:(?:(?:(?:b|c))))", "[b]", "^.b?", "(?P<n>b)",
+            "()()()()()()()()()"};
+        for (String first : earlier) {
+            for (String second : later) {
+                PatternNodes x = Probe.of(first, 15);
+                Probe.putAll(x, Probe.utf8(second));
+                int groups = Probe.readOrRefuse(x, 0);
+                PatternNodes y = Probe.of(second, 0);
+                probe.due(first + " then " + second, groups, y.count(1));
+                probe.due(first + " then " + second, stateOf(x), stateOf(y));
+            }
+            PatternNodes z = Probe.of(first, 0);
+            z.put('*', 1);
+            probe.due(first + " then *", Probe.readOrRefuse(z, 0), NONE);
+            faultsAre(first + " then *", z, 8, 0);
+            z.put(')', 1);
+            probe.due(first + " then )", Probe.readOrRefuse(z, 0), NONE);
+            faultsAre(first + " then )", z, 3, 0);
+        }
+        String[] full = {"a".repeat(399) + ")", "|".repeat(399) + ")", "(" + "a".repeat(399), "(" + "|".repeat(399),
+            "[" + "a".repeat(399), "k".repeat(399) + ")", "\\PL".repeat(133) + ")", "(?:".repeat(30) + "a".repeat(310)};
+        for (String text : full) {
+            PatternNodes x = new PatternNodes();
+            for (int turn = 0; turn < 8; turn++) {
+                probe.due("put", Probe.putAll(x, Probe.utf8(text)), true);
+                probe.due("a fault of 400 bytes", Probe.readOrRefuse(x, 1), NONE);
+            }
+            Probe.putAll(x, Probe.utf8("(|)".repeat(9) + "|".repeat(373)));
+            probe.due("read behind them", Probe.readOrRefuse(x, 0), 9);
+            probe.due("nodes", x.count(0), 411);
+            probe.due("rows", x.node(410, 1), 374);
         }
     }
 
@@ -496,6 +535,16 @@ public final class PromiseEdgesTest {
         }
         PatternNodes nine = Probe.of("()".repeat(8) + "(?P<ninth>)", 0);
         probe.due("name(9, 4)", nine.name(9, 4), 'h');
+        StringBuilder longestOfAll = new StringBuilder();
+        for (int k = 1; k <= 9; k++) {
+            longestOfAll.append("(?P<abcdefghijk").append(k).append(">)");
+        }
+        PatternNodes all = Probe.of(longestOfAll.toString(), 0);
+        for (int k = 1; k <= 9; k++) {
+            probe.due("name(" + k + ", 0)", all.name(k, 0), 'a');
+            probe.due("name(" + k + ", 11)", all.name(k, 11), '0' + k);
+            probe.due("name(" + k + ", 12)", all.name(k, 12), NONE);
+        }
 
         probe.says("name: NONE if there is none");
         int[] wrongByte = {-1, 12, 13, 24, LEAST, LEAST + 1, MOST};
